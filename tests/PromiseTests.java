@@ -289,6 +289,9 @@ public final class PromiseTests {
     due("goes(3)", x.goes(3), NONE);
     due("goes(8)", x.goes(8), BEYOND);
     due("goes(-1)", x.goes(-1), BEYOND);
+    due("goes(7)", x.goes(7), NONE);
+    x.change(3, 2, 132);
+    due("goes(7)", x.goes(7), 3);
     x.change(1, 1, 1);
     due("goes(0), 1 less full", x.goes(0), 2);
     x.change(2, 1, 25);
@@ -410,6 +413,12 @@ public final class PromiseTests {
     due("of(0, 1) on day 7", x.of(0, 1), 69);
     x.go(1);
     due("of(0, 1) on day 8", x.of(0, 1), 64);
+    x = told("bishop");
+    x.go(6);
+    x.change(0, 1, 61);
+    x.go(1);
+    due("of(0, 1), ill on day 6", x.of(0, 1), 0);
+    due("of(0, 5), ill on day 6", x.of(0, 5), 1);
     // Digested is not below 0.
     x = told("hungry stuffed 15; curate stuffed 7; sweet stuffed 5; saint stuffed 5");
     x.go(1);
@@ -619,11 +628,14 @@ public final class PromiseTests {
     due("wordsFor(0, 1), ill in any case", x.wordsFor(0, 1), NONE);
     x.change(0, 5, 9999);
     due("wordsFor(0, 1), ill no more than 9999", x.wordsFor(0, 1), 40);
+    due("wordsFor(5, 1)", x.wordsFor(5, 1), 40);
     due("wordsFor(6, 0)", x.wordsFor(6, 0), BEYOND);
     due("wordsFor(-1, 0)", x.wordsFor(-1, 0), BEYOND);
     due("wordsFor(0, 60)", x.wordsFor(0, 60), 40);
     due("wordsFor(0, 61)", x.wordsFor(0, 61), BEYOND);
     due("wordsFor(0, -1)", x.wordsFor(0, -1), BEYOND);
+    x = told("priest takes 2 stuffed 60; told 0 1 3");
+    due("wordsFor(0, 1): none do", x.wordsFor(0, 1), 0);
     // More words do where fewer don't: what he knows makes an envious one hold more.
     x = told("envious takes 2 stuffed 31; told 0 1 0");
     due("wordsFor(0, 1)", x.wordsFor(0, 1), 29);
@@ -732,6 +744,10 @@ public final class PromiseTests {
     due("fast(21)", x.fast(21), BEYOND);
     due("fast(-1)", x.fast(-1), BEYOND);
     due("fast(5) of no priests", new RicePriests().fast(5), 0);
+    x = told("priest stuffed 40; told 0 0 30");
+    due("fast(1), of sin 0", x.fast(1), 1);
+    x = told("priest stuffed 40; told 0 7 30");
+    due("fast(1), of sin 7", x.fast(1), 1);
     // It goes to the next: both must fast, and of pairs the least.
     x = told("priest takes 2 stuffed 40; priest takes 2 stuffed 41; saint takes 2 stuffed 99; told 0 1 30");
     due("fast(1)", x.fast(1), 3);
@@ -1015,7 +1031,8 @@ public final class PromiseTests {
       "told 0 8 0", "told 0 0 41", "told 0 0", "told 0 0;", "told 0 0 0 0", "told ;", "water", "water 10", "water x",
       "water 1 2", "out 256", "out", "out 1,", "out 1;out", "out 1;\t", "\tout 1", "out\u00a01", "out 1\n",
       "takes 1", "knows 1", "stuffed 1", "out 1; foo", "out 1; #", "out 1 #", "out 1 out 2", "waterout 1",
-      "told 1 1 1; told 000 008 1",
+      "told 1 1 1; told 000 008 1", "out 1\u0000", "priestz", "apriest", "xut 1", "out 1; uut 1", "out 1;out 1`", "out 1;out {",
+      "out 1/", "out 1:", "\u00ff", "out 1\u00bb out 2",
     };
     int[] faults = {
       0, 3, 0, 7, 8, 8, 7, 0, 0, 0,
@@ -1026,8 +1043,10 @@ public final class PromiseTests {
       7, 9, 8, 8, 11, 5, 5, 6, 6,
       8, 4, 3, 5, 9, 6, 0, 3, 5,
       0, 0, 0, 7, 7, 6, 6, 0,
-      21,
+      21, 5, 0, 0, 0, 7, 11, 10,
+      5, 5, 0, 5,
     };
+    due("as many faults as texts", faults.length, texts.length);
     for (int i = 0; i < texts.length; i++) {
       due("text() of '" + texts[i] + "'", read(x, texts[i]), -1 - faults[i]);
       due("count(5)", x.count(5), 0);
@@ -1266,7 +1285,8 @@ public final class PromiseTests {
     x.sheet(0, 8, 1);
     due("image()", x.image(), 1);
     x.status(9);
-    x.go(5);
+    x.change(0, 2, 0);
+    x.go(6);
     x.set(0, 1);
     x.set(1, 1);
     x.list(2, 0);

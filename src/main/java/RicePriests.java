@@ -36,8 +36,7 @@ public final class RicePriests {
   private final Mission imageKept = new Mission();
   private boolean hasImage = false;
   private final Seer seer = new Seer();
-  private final Tape tape = new Tape();
-  private final Reader reader = new Reader(tape);
+  private final Reader reader = new Reader();
   private final Sheet[] sheets = new Sheet[SHEETS];
   private final int[] told = new int[FINDINGS];
 
@@ -263,7 +262,7 @@ public final class RicePriests {
     }
     int above = Integer.bitCount(he.takes);
     int below = SINS;
-    // The line's lower side has no divisor but 2, and powers of a fraction in lowest terms stay in them.
+    // 8 has no prime but 2 in it, and a power of a fraction in lowest terms is in lowest terms, too.
     for (int halvings = 0; halvings < SINS && above % 2 == 0 && below % 2 == 0; halvings++) {
       above /= 2;
       below /= 2;
@@ -283,11 +282,11 @@ public final class RicePriests {
     if (n < 1 || n > 4) {
       return tell(BEYOND);
     }
-    return tape.append(bytes, n) ? tape.length : tell(FULL);
+    return reader.tape.append(bytes, n) ? reader.tape.length : tell(FULL);
   }
 
   public int wipe() {
-    return tape.empty();
+    return reader.tape.empty();
   }
 
   public int text() {
@@ -295,7 +294,7 @@ public final class RicePriests {
     if (answer > 0) {
       mission.becomeLike(seer.dream);
     }
-    tape.empty();
+    reader.tape.empty();
     return answer;
   }
 
@@ -422,7 +421,7 @@ public final class RicePriests {
       case 2: return Integer.bitCount(mission.out);
       case 3: return mission.kept;
       case 4: return mission.sumTogether(Priest.ILL);
-      case 5: return tape.length;
+      case 5: return reader.tape.length;
       case 6: return mission.z;
       case 7: return mission.spotsInUse();
       default: return tell(BEYOND);
@@ -497,7 +496,7 @@ public final class RicePriests {
     return confession % 100;
   }
 
-  /** HOLDS and what STUFFED, KNOWS, HEARD and ILL tell: a day may change these, and no other thing is asked ahead. */
+  /** KIND and TAKES are as they were behind any day, and the rest of what of() tells isn't asked ahead. */
   private static boolean changesByDays(int what) {
     return what == Priest.STUFFED || what == Priest.KNOWS || what == Priest.HEARD || what == Priest.ILL
         || what == Priest.HOLDS;
@@ -797,37 +796,36 @@ public final class RicePriests {
     }
 
     void passDay() {
-      hearToday();
+      int confession = list[placeToday()];
+      int sin = sinOf(confession);
+      int words = wordsOf(confession);
+      Priest taker = words > 0 ? at(hungriestOf(takersOf(sin))) : null;
+      if (taker != null) {
+        taker.eat(sin, words, water);
+      } else if (words > 0) {
+        kept = Math.min(kept + 1, MOST_KEPT);
+      }
+      letTheOverfullFallIll();
+      letAllDigest();
+      day = Math.min(day + 1, MOST_DAY);
+    }
+
+    private void letTheOverfullFallIll() {
       for (int p = 0; p < priests; p++) {
         Priest he = at(p);
         if (he != null && he.stuffed > he.holding()) {
-          if (!he.keepsSilent()) {
-            out |= he.knows;
-          }
+          out |= he.keepsSilent() ? 0 : he.knows;
           he.fallIll();
         }
       }
+    }
+
+    private void letAllDigest() {
       for (int p = 0; p < priests; p++) {
         Priest he = at(p);
         if (he != null) {
           he.stuffed = Math.max(he.stuffed - he.digesting(water, day), 0);
         }
-      }
-      day = Math.min(day + 1, MOST_DAY);
-    }
-
-    private void hearToday() {
-      int confession = list[placeToday()];
-      int sin = sinOf(confession);
-      int words = wordsOf(confession);
-      if (words < 1) {
-        return;
-      }
-      Priest taker = at(hungriestOf(takersOf(sin)));
-      if (taker == null) {
-        kept = Math.min(kept + 1, MOST_KEPT);
-      } else {
-        taker.eat(sin, words, water);
       }
     }
 
@@ -1158,6 +1156,7 @@ public final class RicePriests {
     }
   }
 
+  /** Bytes that came in and are not read yet. */
   private static final class Tape {
 
     private final byte[] bytes = new byte[MOST_BYTES];
@@ -1197,16 +1196,12 @@ public final class RicePriests {
     /** Above each number that a text may tell, and low enough to be grown by a digit. */
     private static final int TOO_MUCH = 10000;
 
-    private final Tape tape;
+    private final Tape tape = new Tape();
     private int token = END;
     private int start = 0;
     private int end = 0;
     private int value = 0;
     private int got = 0;
-
-    Reader(Tape tape) {
-      this.tape = tape;
-    }
 
     /** How many items the mission took in; -1 less the fault, if there is one (the mission is then half changed). */
     int readInto(Mission mission) {
