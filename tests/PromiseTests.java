@@ -7,6 +7,7 @@ public final class PromiseTests {
   private static final int FULL = -1000002;
   private static final int KIND = -1000003;
   private static final int NONE = -1000004;
+  private static final int STATE = -1000005;
   private static final int MISSING = -1000006;
   private static final int SIZE = -1000007;
 
@@ -435,6 +436,29 @@ public final class PromiseTests {
     due("of(1, 3)", x.of(1, 3), 64);
     due("of(0, 1)", x.of(0, 1), 0);
     due("of(0, 3)", x.of(0, 3), 0);
+  }
+
+  /** Behind the 512th call all is free, but no shorter run comes to the last day. */
+  private static void theLastDay() {
+    RicePriests x = told("priest; told 0 0 1; told 3 7 2; told 4 7 2");
+    for (int i = 0; i < 1666; i++) {
+      x.go(60);
+    }
+    due("now(0)", x.now(0), 99960);
+    due("go(40)", x.go(40), STATE);
+    due("go(61)", x.go(61), BEYOND);
+    due("go(38)", x.go(38), 0);
+    due("come(2)", x.come(2), STATE);
+    due("come(21)", x.come(21), BEYOND);
+    due("count(6): nothing is drawn", x.count(6), 1);
+    due("ahead(0, 4, 0)", x.ahead(0, 4, 0), 9999);
+    x.change(0, 4, 0);
+    due("ahead(0, 4, 100): place 2, then 3 for 99 days", x.ahead(0, 4, 100), 99);
+    due("come(1)", x.come(1), 0);
+    due("now(0)", x.now(0), 99999);
+    due("come(1)", x.come(1), STATE);
+    due("go(1)", x.go(1), STATE);
+    due("status(4)", x.status(4), 4);
   }
 
   private static void now() {
@@ -1404,7 +1428,7 @@ public final class PromiseTests {
     promise = 8; swells();
     promise = 9; goes();
     promise = 10; dies();
-    promise = 11; go();
+    promise = 11; go(); theLastDay();
     promise = 12; now();
     promise = 13; ahead();
     promise = 14; ill();

@@ -11,7 +11,7 @@ import java.util.regex.Pattern;
 /** Runs of 512 random calls, each answer against a second telling of the document, written in another way. */
 public final class RandomRuns {
 
-  private static final int RUNS = 600;
+  private static final int RUNS = 1200;
   private static final int CALLS = 512;
 
   // ---- the second telling: kinds as classes, sets as sets, findings thrown
