@@ -64,6 +64,8 @@ final class ConfessEdges extends Edge {
     }
     // Of several the least, also one that he doesn't take.
     Run.told("priest takes 0; told 0 7 20").due("spare 0 1", 0);
+    Run.told("priest takes 128; told 0 7 5").due("spare 0 1", 0).due("spare 0 0", 0);
+    Run.told("priest takes 128; told 0 7 6").due("spare 0 1", 7).due("spare 0 0", 0);
     Run.told("priest takes 192; told 0 7 20; told 1 6 20").due("spare 0 2", 6);
   }
 
@@ -98,6 +100,18 @@ final class ConfessEdges extends Edge {
     x.due("of 0 0", BISHOP);
     // All fall ill, but none more than 9999 times.
     x.then("change 0 5 9999", "change 0 1 999").due("kindFor 0 1", 0);
+  }
+
+  static void p21IllOfAllTogether() {
+    promise(21, "so that ILL of all together is least behind n (0 to 60) DAYS.");
+    Run x = Run.told("priest stuffed 80;priest;priest;priest;priest;priest;priest;priest");
+    for (int p = 0; p < 8; p++) {
+      x.due("kindFor 0 1", 4).then("change " + p + " 5 " + (p == 0 ? 9998 : 9999));
+    }
+    x.due("kindFor 0 1", 4).due("kindFor 7 1", 0);
+    // The other one has 35 of room and is ill by 65, unless this one has more and eats it himself.
+    x = Run.told("priest stuffed 30; priest stuffed 25; told 0 1 40").due("kindFor 0 1", 4);
+    x.then("list 0 100").due("kindFor 0 1", 0);
   }
 
   /** Full by 70 only a saint and a hungry one stay well; the saint is ill by 65 + 8 + 18 of 90 on day 59. */

@@ -287,6 +287,20 @@ final class MissionEdges extends Edge {
     x = Run.told("priest; priest knows 6").due("dies 0", 1).due("of 1 3", 6).due("of 1 4", 0);
   }
 
+  static void p10TheDeadIsNoOtherOne() {
+    promise(10, "comes to the hungriest of the others");
+    // Each of eight in turn has most room himself, and the next most have all others.
+    for (int dead = 0; dead < 8; dead++) {
+      Run x = Run.told("priest;priest;priest;priest;priest;priest;priest;priest");
+      for (int p = 0; p < 8; p++) {
+        x.then("change " + p + " 1 " + (p == dead ? 0 : 20));
+      }
+      int heir = dead == 0 ? 1 : 0;
+      x.then("change " + dead + " 3 17").due("dies " + dead, heir).due("of " + heir + " 3", 17);
+      x.due("of " + dead + " 3", 0).due("dies " + dead, heir);
+    }
+  }
+
   static void p10TheDeadIsEmpty() {
     promise(10, "he KNOWS nothing any more, is STUFFED by 0, TAKES no SIN: who that is.");
     Run x = Run.told("sweet; bishop takes 255 knows 255 stuffed 999; out 64");

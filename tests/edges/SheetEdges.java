@@ -86,6 +86,9 @@ final class SheetEdges extends Edge {
     // Also behind what was shorter in between.
     x.sheet(1, 8, 1, 2, 3, 4, 5, 6).then("sheet 1 8 2", "sheet 1 8 6", "list 5 9").due("load 1", 6).due("listed 5", 0);
     x.sheet(1, 8, 1, 2, 3, 4, 5, 6).then("sheet 1 0 0", "sheet 1 8 6", "list 5 9").due("load 1", 6).due("listed 5", 0);
+    // The last of 40, too.
+    x.then("sheet 1 8 40", "write 1 39 9", "sheet 1 8 40", "copy 1 39 1 0 1", "list 0 9").due("load 1", 6);
+    x.due("listed 0", 0);
   }
 
   static void p35SheetsAndBits() {

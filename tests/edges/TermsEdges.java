@@ -442,6 +442,9 @@ final class TermsEdges extends Edge {
       x.then("change 0 5 9998", "change 0 1 999", "go 1").due("of 0 5", 9999);
       x.then("change 0 3 1", "change 0 1 999", "go 1").due("of 0 5", 9999).due("of 0 3", 0).due("of 0 1", 0);
     }
+    // On a day on which he digests nothing it is seen that 0 is what the illness left.
+    Run x = Run.told("bishop").then("go 6", "change 0 1 999").due("of 0 8", 0).then("go 1").due("of 0 1", 0);
+    x.due("of 0 5", 1);
   }
 
   static void t2DigestedIsNeverBelow0() {
